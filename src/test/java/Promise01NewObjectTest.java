@@ -39,7 +39,7 @@ public final class Promise01NewObjectTest {
         }
         DataGuards x = new DataGuards(number);
         int counter = 0;
-        for (int i = 0; i < 200; i++) {
+        for (int i = 0; i < 150; i++) {
             if (profile == 2) {
                 x.plant(1, 99, 0);
                 counter += 99;
