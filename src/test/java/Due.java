@@ -2,17 +2,37 @@ import java.util.Arrays;
 
 /** Counts the answers of a test that are not the ones due, and ends it accordingly. */
 final class Due {
+    static final long THROWN = 1000;
+
+    private static String sentence = "";
+    private static int askedOfSentence = 0;
     private static int wrong = 0;
     private static int asked = 0;
 
     private Due() {
     }
 
+    /** From here on, what is asked is asked of these words of the document. */
+    static void sentence(String words) {
+        lookAtSentence();
+        sentence = "\"" + words + "\": ";
+        askedOfSentence = 0;
+    }
+
+    /** A sentence of which nothing is asked has no test. */
+    private static void lookAtSentence() {
+        if (!sentence.isEmpty() && askedOfSentence == 0) {
+            wrong++;
+            System.out.println(sentence + "the test asked nothing");
+        }
+    }
+
     static void is(String call, long got, long want) {
         asked++;
+        askedOfSentence++;
         if (got != want) {
             wrong++;
-            System.out.println(call + " answered " + got + ", due is " + want);
+            System.out.println(sentence + call + " answered " + got + ", due is " + want);
         }
     }
 
@@ -33,9 +53,7 @@ final class Due {
         is(what + ": out(" + i + "), " + THROWN + " for the exception", outOrThrown(x, i), THROWN);
     }
 
-    static final long THROWN = 1000;
-
-    private static long outOrThrown(DataGuards x, int i) {
+    static long outOrThrown(DataGuards x, int i) {
         try {
             return x.out(i);
         } catch (ArrayIndexOutOfBoundsException e) {
@@ -45,6 +63,7 @@ final class Due {
     }
 
     static void end() {
+        lookAtSentence();
         if (asked == 0) {
             System.out.println("the test asked nothing");
         }
