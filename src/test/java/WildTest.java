@@ -28,13 +28,17 @@ public final class WildTest {
             try {
                 call(x, call);
             } catch (ArrayIndexOutOfBoundsException e) {
-                // The machine's own exception names the index; the class's own does not.
-                thrown = call == 0 && !e.getMessage().startsWith("Index") ? "nothing" : e.toString();
+                thrown = call == 0 && !isOfTheMachine(e) ? "nothing" : e.toString();
             } catch (RuntimeException e) {
                 thrown = e.toString();
             }
             Due.is("call " + call + " of profile " + number + " throws " + thrown, thrown.equals("nothing"), true);
         }
+    }
+
+    /** The machine's own exception names the index, or nothing once it is thrown often; the class's does not. */
+    private static boolean isOfTheMachine(ArrayIndexOutOfBoundsException e) {
+        return e.getMessage() == null || e.getMessage().startsWith("Index");
     }
 
     private void call(DataGuards x, int call) {
