@@ -248,7 +248,9 @@ public final class DataGuards {
         }
 
         void addAll(Octets others) {
-            for (int i = 0; i < others.length; i++) {
+            // Taken before, so that the loop ends whatever is added.
+            int count = others.length;
+            for (int i = 0; i < count; i++) {
                 add(others.get(i));
             }
         }
